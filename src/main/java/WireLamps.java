@@ -9,6 +9,7 @@ public final class WireLamps {
   private static final int WORD_BITS = 12;
   private static final int HIGHEST_WORD = 4095;
   private static final int HIGHEST_LOSS = 6;
+  // What eight lamps want whose colours are all at their brightest.
   private static final int FULL_CURRENT = 360;
 
   private static final int GOOD = 0;
@@ -104,7 +105,7 @@ public final class WireLamps {
     }
     history.save(state);
     if (!state.hasRoomFor(1)) {
-      return refused();
+      return refuse();
     }
     state.addPulse(length);
     return state.pulseCount;
@@ -116,7 +117,7 @@ public final class WireLamps {
     }
     history.save(state);
     if (!state.hasRoomFor(WORD_BITS)) {
-      return refused();
+      return refuse();
     }
     state.addWord(word);
     return state.pulseCount;
@@ -166,7 +167,7 @@ public final class WireLamps {
     history.save(state);
     if (!state.hasRoomFor(words * WORD_BITS)) {
       text.empty();
-      return refused();
+      return refuse();
     }
     for (int i = 0; i < words; i++) {
       state.addWord(text.wordAt(i));
@@ -232,7 +233,7 @@ public final class WireLamps {
       case 4:
       case 5:
       case 6:
-        return state.shown(brightnessOf(state.shining[lamp], what - 4), state.currentWanted());
+        return state.shown(State.brightnessOf(state.shining[lamp], what - 4), state.currentWanted());
       case 7:
         return state.came[lamp];
       default:
@@ -386,7 +387,7 @@ public final class WireLamps {
   }
 
   /** Counts a refusal and returns what a refused call answers. */
-  private int refused() {
+  private int refuse() {
     state.refused++;
     return NONE;
   }
@@ -424,10 +425,6 @@ public final class WireLamps {
 
   private static boolean isWord(int word) {
     return word >= 0 && word <= HIGHEST_WORD;
-  }
-
-  private static int brightnessOf(int word, int colour) {
-    return (word >> (8 - 4 * colour)) & 15;
   }
 
   /** What Double.doubleToLongBits tells of a value from 0 to 1, which the library of this program lacks. */
@@ -515,6 +512,10 @@ public final class WireLamps {
 
     static int shortened(int length, int loss) {
       return length - loss < 1 ? 1 : length - loss;
+    }
+
+    static int brightnessOf(int word, int colour) {
+      return (word >> (8 - 4 * colour)) & 15;
     }
 
     int currentWanted() {

@@ -48,6 +48,23 @@ final class ForecastTest {
     lamps.mode(0, 3);
     ifGapIs(lamps, 0, 0x111);
     ifGapIs(lamps, 2, 0xffe);
+
+    WireLamps worn = new WireLamps();
+    for (int lamp = 0; lamp < 4; lamp++) {
+      worn.loss(lamp, 2);
+    }
+    Due.sendTimes(worn, 0x9a5, 4);
+    ifGapIs(worn, 3, 0x9a5);
+    worn.mode(1, 3);
+    ifGapIs(worn, 0, 0x9a5);
+    ifGapIs(worn, 2, 0);
+    worn.mode(1, 0);
+    worn.set(1, 0);
+    ifGapIs(worn, 0, 0x9a5);
+    ifGapIs(worn, 1, 0);
+    worn.set(0, 2);
+    ifGapIs(worn, 2, 0x9a5);
+    ifGapIs(worn, 3, 0);
     Due.refuses(lamps, "ifGap(8, 0)", INDEX, () -> lamps.ifGap(8, 0));
     Due.refuses(lamps, "ifGap(-1, 2)", INDEX, () -> lamps.ifGap(-1, 2));
     Due.refuses(lamps, "ifGap(0, 2)", ARGUMENT, () -> lamps.ifGap(0, 2));

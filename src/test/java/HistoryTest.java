@@ -48,7 +48,7 @@ final class HistoryTest {
     lamps.drop();
     lamps.pulse(9);
     lamps.keep(0);
-    long there = digestWithoutSaved(lamps);
+    long there = digestWithSixSaved(lamps);
     lamps.mode(2, 3);
     lamps.loss(3, 2);
     lamps.set(0, 2);
@@ -62,11 +62,11 @@ final class HistoryTest {
     Due.write(lamps, "fff");
     lamps.goBack(0);
     Due.is("the buffer is not in a snapshot", lamps.clearBuffer(), 3);
-    Due.is("all else is", digestWithoutSaved(lamps), there);
+    Due.is("all else is", digestWithSixSaved(lamps), there);
   }
 
   /** The digest with as many saved states as can be. */
-  private static long digestWithoutSaved(WireLamps lamps) {
+  private static long digestWithSixSaved(WireLamps lamps) {
     Due.is("saved states", lamps.count(10), 6);
     return lamps.digest();
   }
