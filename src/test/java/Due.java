@@ -5,14 +5,38 @@ final class Due {
   }
 
   private static int wrong = 0;
+  private static int sentences = 0;
+  private static String sentence = "";
 
   private Due() {
   }
 
+  /** Runs the test of one sentence of the document; what it finds wrong is told with that sentence. */
+  static void holds(String where, String words, Call test) {
+    sentences++;
+    sentence = where + ", \"" + words + "\": ";
+    try {
+      test.run();
+    } catch (RuntimeException e) {
+      tell("the test ended with " + e);
+    }
+    sentence = "";
+  }
+
+  private static void tell(String what) {
+    wrong++;
+    System.out.println(sentence + what);
+  }
+
   static void is(String call, long got, long want) {
     if (got != want) {
-      wrong++;
-      System.out.println(call + " answered " + got + ", due is " + want);
+      tell(call + " answered " + got + ", due is " + want);
+    }
+  }
+
+  static void areSame(String call, String got, String want) {
+    if (!got.equals(want)) {
+      tell(call + " is " + got + ", due is " + want);
     }
   }
 
@@ -30,8 +54,7 @@ final class Due {
       got = e.getClass().getSimpleName();
     }
     if (!got.equals(want.getSimpleName())) {
-      wrong++;
-      System.out.println(call + " threw " + got + ", due is " + want.getSimpleName());
+      tell(call + " threw " + got + ", due is " + want.getSimpleName());
     }
     is(call + " throws, so the digest", lamps.digest(), before);
   }
@@ -41,7 +64,7 @@ final class Due {
       System.out.println(wrong + " answers are not as due");
       System.exit(1);
     }
-    System.out.println("all answers are as due");
+    System.out.println("all answers are as due" + (sentences > 0 ? ", of " + sentences + " sentences" : ""));
   }
 
   static void write(WireLamps lamps, String text) {

@@ -14,7 +14,7 @@ import java.util.TreeSet;
 import java.util.regex.Matcher;
 import java.util.regex.Pattern;
 
-/** The public face is the document's, and nothing else can be seen; the words that LANGUAGE.md rules out are not used. */
+/** The public face is the document's, and nothing else can be seen; what LANGUAGE.md rules out is not used. */
 final class FaceTest {
   private static final String[] FACE = {
     "int mode(int,int)", "int loss(int,int)", "int set(int,int)", "int pulse(int)", "int send(int)", "int gap()",
