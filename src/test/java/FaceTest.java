@@ -16,12 +16,19 @@ import java.util.regex.Pattern;
 
 /** The public face is the document's, and nothing else can be seen; what LANGUAGE.md rules out is not used. */
 final class FaceTest {
+  private static final String INDEX = " throws IndexOutOfBoundsException";
+  private static final String ARGUMENT = " throws IllegalArgumentException";
+  private static final String INDEX_ARGUMENT = INDEX + ", IllegalArgumentException";
+  private static final String ARGUMENT_STATE = ARGUMENT + ", IllegalStateException";
+
   private static final String[] FACE = {
-    "int mode(int,int)", "int loss(int,int)", "int set(int,int)", "int pulse(int)", "int send(int)", "int gap()",
-    "int drop()", "int append(int)", "int clearBuffer()", "int firstError()", "int load()", "int keep(int)",
-    "int goBack(int)", "int undo()", "int lampOf(int,int)", "int pulseAt(int)", "int count(int)",
-    "int setting(int)", "int ifGap(int,int)", "int wrong(int)", "int bears(int)", "int brokenAt()",
-    "int wordsTo(int)", "double brightness()", "long digest()"};
+    "int mode(int,int)" + INDEX_ARGUMENT, "int loss(int,int)" + INDEX_ARGUMENT, "int set(int,int)" + INDEX_ARGUMENT,
+    "int pulse(int)" + ARGUMENT, "int send(int)" + ARGUMENT, "int gap()", "int drop()",
+    "int append(int)" + ARGUMENT_STATE, "int clearBuffer()", "int firstError()", "int load()" + ARGUMENT,
+    "int keep(int)" + ARGUMENT, "int goBack(int)" + ARGUMENT_STATE, "int undo() throws IllegalStateException",
+    "int lampOf(int,int)" + INDEX_ARGUMENT, "int pulseAt(int)" + ARGUMENT, "int count(int)" + ARGUMENT,
+    "int setting(int)" + INDEX, "int ifGap(int,int)" + INDEX_ARGUMENT, "int wrong(int)" + ARGUMENT,
+    "int bears(int)" + INDEX, "int brokenAt()", "int wordsTo(int)" + INDEX, "double brightness()", "long digest()"};
 
   private static final String[] RULED_OUT = {
     "\\bimport\\b", "\\bpackage\\b", "->", "::", "Exact\\b", "\\bDouble\\b", "\\bcatch\\b", "\\bfinally\\b",
@@ -69,23 +76,26 @@ final class FaceTest {
     Due.is("a public constructor without parameters", constructors[0].getModifiers(), Modifier.PUBLIC);
     Due.is("its parameters", constructors[0].getParameterCount(), 0);
     for (Field field : WireLamps.class.getDeclaredFields()) {
-      boolean none = field.getName().equals("NONE");
-      Due.is(field.getName() + " can be seen", Modifier.isPrivate(field.getModifiers()) ? 0 : 1, none ? 1 : 0);
+      if (field.getName().equals("NONE")) {
+        Due.areSame("the constant", field.toString(), "public static final int WireLamps.NONE");
+      } else {
+        Due.is(field.getName() + " is private", Modifier.isPrivate(field.getModifiers()) ? 1 : 0, 1);
+      }
     }
   }
 
   private static String told(Method method) {
     String parameters = Arrays.toString(method.getParameterTypes()).replaceAll("[\\[\\] ]", "");
     String modifiers = Modifier.toString(method.getModifiers());
-    return modifiers + " " + method.getReturnType() + " " + method.getName() + "(" + parameters + ")";
+    StringBuilder thrown = new StringBuilder();
+    for (Class<?> exception : method.getExceptionTypes()) {
+      thrown.append(thrown.length() == 0 ? " throws " : ", ").append(exception.getSimpleName());
+    }
+    return modifiers + " " + method.getReturnType() + " " + method.getName() + "(" + parameters + ")" + thrown;
   }
 
   private static void source() throws IOException {
-    String path = System.getenv("WIRE_LAMPS_SOURCE");
-    if (path == null) {
-      path = "src/main/java/WireLamps.java";
-    }
-    String text = Files.readString(Path.of(path));
+    String text = Files.readString(Path.of("src/main/java/WireLamps.java"));
     String code = text.replaceAll("(?s)/\\*.*?\\*/", " ").replaceAll("//[^\n]*", " ");
     for (String ruledOut : RULED_OUT) {
       Matcher matcher = Pattern.compile(ruledOut).matcher(code);
